@@ -31,6 +31,8 @@ public final class CommittingEdgesTest {
         byBeingCommitted();
         harmfulIfTheCounterDoesNotSayTheOutcome();
         theCounterAtTheCommitTellsHarm();
+        theCounterAtTheCommitTellsHarmInTheGlobalTable();
+        notHarmfulIfTheCounterSaysTheOutcomeByThen();
         eachTableHasItsOwnMeetings();
         tableIsNot0Or1();
         notInFlightAnyMore();
@@ -207,6 +209,23 @@ public final class CommittingEdgesTest {
                 + "resolve(0, false) = -1; resolve(1, true) = 0; commit() = false; meetings(0, false) = 1;"
                 + "predicted(0, 0) = true; commit() = true; meetings(0, false) = 2; meetings(0, true) = 2;"
                 + "meetings(1, false) = 0");
+    }
+
+    /** Step 2 comes before step 3: what an older branch has moved counts, not what this one moves. */
+    private static void theCounterAtTheCommitTellsHarmInTheGlobalTable() {
+        Script.run("if the counter does not say o, at the commit, global", "setSizes(8, 2, 0);" + train(1, 4, true)
+                + "predict(0) = false; predict(8) = false; predicted(1, 1) = true; resolve(0, false) = -1;"
+                + "resolve(1, true) = 0; commit() = false; counter(1, 0) = 1; meetings(1, false) = 1;"
+                + "meetings(1, true) = 1; predicted(0, 1) = true; commit() = true; meetings(1, false) = 2;"
+                + "meetings(1, true) = 2; meetings(0, false) = 0");
+    }
+
+    private static void notHarmfulIfTheCounterSaysTheOutcomeByThen() {
+        Script.run("not harmful: the counter did not say o at the prediction, but does at the commit",
+                "setSizes(2, 2, 0); predict(0) = false; resolve(0, true) = 0; predict(4) = false; commit() = true;"
+                + "counter(0, 0) = 2; counter(1, 0) = 2; predicted(0, 0) = false; predicted(0, 1) = false;"
+                + "resolve(0, true) = 0; commit() = true; meetings(0, false) = 1; meetings(0, true) = 0;"
+                + "meetings(1, false) = 1; meetings(1, true) = 0");
     }
 
     private static void eachTableHasItsOwnMeetings() {
